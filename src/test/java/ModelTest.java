@@ -8,10 +8,12 @@ import java.util.Set;
  * every way in which a text could go on.
  */
 public final class ModelTest {
-    private static final int RUNS = 60;
-    private static final int CALLS = 512;
+    private static final int RUNS = 200;
+    private static final int MOST_CALLS = 512;
+    private static final int WIDE_RUNS = 12;
 
     private long seed;
+    private int calls = 0;
 
     private ModelTest(long seed) {
         this.seed = seed;
@@ -22,6 +24,9 @@ public final class ModelTest {
         for (int run = 0; run < RUNS && wrong < 10; run++) {
             wrong += new ModelTest(run).run(run);
         }
+        for (int run = 0; run < WIDE_RUNS && wrong < 10; run++) {
+            wrong += new ModelTest(-1 - run).runWide(run);
+        }
         System.out.println(wrong == 0 ? "the model agrees" : wrong + " runs went apart");
         if (wrong != 0) {
             System.exit(1);
@@ -31,14 +36,54 @@ public final class ModelTest {
     private int run(int number) {
         SiftedGraphs x = new SiftedGraphs();
         Model model = new Model();
-        for (int call = 0; call < CALLS; call++) {
+        while (calls < MOST_CALLS) {
             String fault = compareOne(x, model);
             if (fault != null) {
-                System.out.println("run " + number + ", call " + call + ": " + fault);
+                System.out.println("run " + number + ", call " + calls + ": " + fault);
                 return 1;
             }
         }
         return 0;
+    }
+
+    // Eight registers of functions as unlike one another as can be, so that the levels are full.
+    private int runWide(int number) {
+        SiftedGraphs x = new SiftedGraphs();
+        Model model = new Model();
+        String fault = null;
+        for (int r = 0; r < 8; r++) {
+            int register = r;
+            int code = 2 + below(12);
+            fault = fault != null ? fault : same("set", () -> { x.set(register, code); return 0; }, () -> model.set(register, code));
+        }
+        for (int round = 0; round < 20; round++) {
+            fault = fault != null ? fault : mixOnce(x, model);
+        }
+        for (int v = 0; v < 6; v++) {
+            int which = v;
+            fault = fault != null ? fault : same("shared", () -> x.shared(), () -> model.shared());
+            fault = fault != null ? fault : same("width", () -> x.width(which), () -> model.width(which));
+            fault = fault != null ? fault : same("sift", () -> x.sift(which), () -> model.sift(which));
+        }
+        if (fault != null) {
+            System.out.println("wide run " + number + ": " + fault);
+        }
+        return fault == null ? 0 : 1;
+    }
+
+    private String mixOnce(SiftedGraphs x, Model m) {
+        String fault = null;
+        for (int r = 0; r < 8 && fault == null; r++) {
+            int register = r;
+            char other = (char) ('A' + below(8));
+            char first = (char) ('a' + below(6));
+            char second = (char) ('a' + below(6));
+            long text = (long) ('A' + r) << 40 | (long) '^' << 32 | (long) other << 24 | '&' << 16 | first << 8 | '^';
+            fault = compareTyping(x, m, text, 6);
+            fault = fault != null ? fault : compareTyping(x, m, second, 1);
+            fault = fault != null ? fault : same("read", () -> x.read(register), () -> m.read(register));
+        }
+        return fault;
     }
 
     // The same numbers in every run of the tests, without a random source.
@@ -83,7 +128,7 @@ public final class ModelTest {
             case 21: return same("variable " + v, () -> x.variable(v), () -> m.variable(v));
             case 22: case 23: { int l = number(5); return same("swap " + l, () -> x.swap(l), () -> m.swap(l)); }
             case 24: return below(4) > 0 ? null : same("sift " + v, () -> x.sift(v), () -> m.sift(v));
-            default: return compareRegisters(x, m);
+            default: return compareRegister(x, m, a);
         }
     }
 
@@ -106,7 +151,7 @@ public final class ModelTest {
         return below(8) == 0 ? null : same("read " + r, () -> x.read(r), () -> m.read(r));
     }
 
-    private static String compareTyping(SiftedGraphs x, Model m, long characters, int n) {
+    private String compareTyping(SiftedGraphs x, Model m, long characters, int n) {
         return same("type " + characters + " " + n, () -> x.type(characters, n), () -> m.type(characters, n));
     }
 
@@ -125,7 +170,7 @@ public final class ModelTest {
     private String formula(int depth) {
         String operand = "01abcdefabcdefabcdefABCDEFGH";
         switch (depth == 0 ? 0 : below(7)) {
-            case 0: return operand.substring(below(operand.length())).substring(0, 1);
+            case 0: return String.valueOf(operand.charAt(below(operand.length())));
             case 1: return "!" + formula(depth - 1);
             case 2: return "(" + formula(depth) + ")";
             case 3: return formula(depth - 1) + "&" + formula(depth - 1);
@@ -135,25 +180,25 @@ public final class ModelTest {
         }
     }
 
-    private String compareRegisters(SiftedGraphs x, Model m) {
-        for (int r = 0; r < 8; r++) {
-            for (int i = 0; i < 64; i++) {
-                int register = r;
-                int assignment = i;
-                String fault = same("value " + r + " " + i, () -> x.value(register, assignment) ? 1 : 0, () -> m.value(register, assignment));
-                if (fault != null) {
-                    return fault;
-                }
-            }
+    private String compareRegister(SiftedGraphs x, Model m, int a) {
+        String fault = null;
+        for (int i = below(8); i < 64 && fault == null; i += 1 + below(16)) {
+            int assignment = i;
+            fault = same("value " + a + " " + i, () -> x.value(a, assignment) ? 1 : 0, () -> m.value(a, assignment));
         }
-        return null;
+        return fault;
     }
 
     private interface Question {
         int ask();
     }
 
-    private static String same(String call, Question program, Question model) {
+    private String same(String call, Question program, Question model) {
+        // What an object answers after its last promised call is free.
+        if (calls >= MOST_CALLS) {
+            return null;
+        }
+        calls++;
         String got = told(program);
         String due = told(model);
         return got.equals(due) ? null : call + " answered " + got + ", due is " + due;
@@ -456,11 +501,11 @@ public final class ModelTest {
         }
 
         private static boolean bit(int assignment, int v) {
-            return assignment / (int) Math.pow(2, 5 - v) % 2 == 1;
+            return assignment / (32 >> v) % 2 == 1;
         }
 
         private static int with(int assignment, int v, boolean value) {
-            int weight = (int) Math.pow(2, 5 - v);
+            int weight = 32 >> v;
             return assignment + (value ? weight : 0) - (bit(assignment, v) ? weight : 0);
         }
 

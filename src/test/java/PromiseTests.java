@@ -1,9 +1,15 @@
 import java.util.NoSuchElementException;
 
-/** For each promise of the document: ordinary inputs, the edges that it names, wrong inputs. */
+/**
+ * For each promise of the document: ordinary inputs, the edges that it names, wrong inputs. No
+ * object gets more than the 512 calls that are promised.
+ */
 public final class PromiseTests {
     private static final int[] OUT_OF_EIGHT = {-1, 8, Integer.MIN_VALUE, Integer.MAX_VALUE};
     private static final int[] OUT_OF_SIX = {-1, 6, Integer.MIN_VALUE, Integer.MAX_VALUE};
+
+    // What ring() says, as a formula.
+    private static final String RING = "a&b^c&d^e&f^a&f";
 
     private static int wrong = 0;
     private static String promise = "";
@@ -59,14 +65,15 @@ public final class PromiseTests {
 
     private static void set() {
         promise = "2, set";
-        SiftedGraphs x = new SiftedGraphs();
         for (int code = 0; code < 14; code++) {
-            x.set(3, code);
+            SiftedGraphs one = new SiftedGraphs();
+            one.set(3, code);
             for (int i = 0; i < 64; i++) {
                 boolean even = code >= 2 && (i >> 5 - (code - 2) / 2 & 1) == 1;
-                due("code " + code + " at " + i, x.value(3, i), even ^ code % 2 == 1);
+                due("code " + code + " at " + i, one.value(3, i), even ^ code % 2 == 1);
             }
         }
+        SiftedGraphs x = new SiftedGraphs();
         x.set(0, 4);
         x.set(7, 5);
         due("first register", x.count(0), 32);
@@ -82,19 +89,19 @@ public final class PromiseTests {
 
     private static void apply() {
         promise = "3, apply";
-        SiftedGraphs x = withVariables();
         for (int operation = 0; operation < 16; operation++) {
-            x.apply(7, 1, 4, operation);
+            SiftedGraphs one = withVariables();
+            one.apply(7, 1, 4, operation);
             for (int i = 0; i < 64; i++) {
                 int bit = 2 * (i >> 4 & 1) + (i >> 1 & 1);
-                due("operation " + operation + " at " + i, x.value(7, i), (operation >> bit & 1) == 1);
+                due("operation " + operation + " at " + i, one.value(7, i), (operation >> bit & 1) == 1);
             }
         }
+        SiftedGraphs x = withVariables();
         x.apply(1, 1, 4, 8);
         due("into its own operand", x.count(1), 16);
         x.apply(1, 1, 1, 6);
         due("with itself", x.count(1), 0);
-        x.release(7);
         for (int bad : OUT_OF_EIGHT) {
             refused("r " + bad, () -> x.apply(bad, 7, 7, 0));
             refused("a " + bad, () -> x.apply(0, bad, 7, 0));
@@ -131,18 +138,17 @@ public final class PromiseTests {
 
     private static void restrict() {
         promise = "5, restrict";
-        SiftedGraphs x = withVariables();
         for (int v = 0; v < 6; v++) {
-            enter(x, 6, "a&b^c&d^e&f^a&f");
-            x.restrict(7, 6, v, true);
-            x.restrict(6, 6, v, false);
+            SiftedGraphs one = held(RING);
+            one.restrict(7, 0, v, true);
+            one.restrict(0, 0, v, false);
             int weight = 1 << 5 - v;
             for (int i = 0; i < 64; i++) {
-                due("1 of " + v + " at " + i, x.value(7, i), ring(i | weight));
-                due("0 of " + v + " at " + i, x.value(6, i), ring(i & ~weight));
+                due("1 of " + v + " at " + i, one.value(7, i), ring(i | weight));
+                due("0 of " + v + " at " + i, one.value(0, i), ring(i & ~weight));
             }
         }
-        x.release(7);
+        SiftedGraphs x = withVariables();
         for (int bad : OUT_OF_EIGHT) {
             refused("r " + bad, () -> x.restrict(bad, 7, 0, true));
             refused("a " + bad, () -> x.restrict(0, bad, 0, true));
@@ -156,23 +162,22 @@ public final class PromiseTests {
 
     private static void compose() {
         promise = "6, compose";
-        SiftedGraphs x = withVariables();
-        enter(x, 6, "a&b^c&d^e&f^a&f");
-        enter(x, 7, "b|!d&e");
         for (int v = 0; v < 6; v++) {
-            x.compose(0, 6, v, 7);
+            SiftedGraphs one = held(RING);
+            enter(one, 7, "b|!d&e");
+            one.compose(1, 0, v, 7);
             int weight = 1 << 5 - v;
             for (int i = 0; i < 64; i++) {
                 boolean inner = bit(i, 1) || !bit(i, 3) && bit(i, 4);
-                due(v + " at " + i, x.value(0, i), ring(inner ? i | weight : i & ~weight));
+                due(v + " at " + i, one.value(1, i), ring(inner ? i | weight : i & ~weight));
             }
         }
-        x.compose(6, 6, 2, 6);
+        SiftedGraphs itself = held(RING);
+        itself.compose(0, 0, 2, 0);
         for (int i = 0; i < 64; i++) {
-            due("into itself at " + i, x.value(6, i), ring(ring(i) ? i | 8 : i & ~8));
+            due("into itself at " + i, itself.value(0, i), ring(ring(i) ? i | 8 : i & ~8));
         }
-        x.set(0, 2);
-        x.release(7);
+        SiftedGraphs x = withVariables();
         for (int bad : OUT_OF_EIGHT) {
             refused("r " + bad, () -> x.compose(bad, 7, 0, 7));
             refused("a " + bad, () -> x.compose(0, bad, 0, 7));
@@ -188,19 +193,16 @@ public final class PromiseTests {
 
     private static void quantify() {
         promise = "7, quantify";
-        SiftedGraphs x = withVariables();
-        enter(x, 6, "a&b^c&d^e&f^a&f");
         for (int set = 0; set < 64; set++) {
-            x.quantify(0, 6, set, false);
-            x.quantify(1, 6, set, true);
+            SiftedGraphs one = held(RING);
+            one.quantify(1, 0, set, false);
+            one.quantify(0, 0, set, true);
             for (int i = 0; i < 64; i++) {
-                due("some of " + set + " at " + i, x.value(0, i), ringOver(i, set, false));
-                due("all of " + set + " at " + i, x.value(1, i), ringOver(i, set, true));
+                due("some of " + set + " at " + i, one.value(1, i), ringOver(i, set, false));
+                due("all of " + set + " at " + i, one.value(0, i), ringOver(i, set, true));
             }
         }
-        x.quantify(6, 6, 0, true);
-        due("no variables", x.support(6), 63);
-        x.set(0, 2);
+        SiftedGraphs x = withVariables();
         for (int bad : OUT_OF_EIGHT) {
             refused("r " + bad, () -> x.quantify(bad, 7, 0, true));
             refused("a " + bad, () -> x.quantify(0, bad, 0, true));
