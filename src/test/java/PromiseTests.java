@@ -1,22 +1,13 @@
-import java.util.NoSuchElementException;
-
 /**
  * For each promise of the document: ordinary inputs, the edges that it names, wrong inputs. No
  * object gets more than the 512 calls that are promised.
  */
-public final class PromiseTests {
+public final class PromiseTests extends Checks {
     private static final int[] OUT_OF_EIGHT = {-1, 8, Integer.MIN_VALUE, Integer.MAX_VALUE};
     private static final int[] OUT_OF_SIX = {-1, 6, Integer.MIN_VALUE, Integer.MAX_VALUE};
 
     // What ring() says, as a formula.
     private static final String RING = "a&b^c&d^e&f^a&f";
-
-    private static int wrong = 0;
-    private static String promise = "";
-
-    private interface Call {
-        void make();
-    }
 
     public static void main(String[] args) {
         newObject();
@@ -42,14 +33,11 @@ public final class PromiseTests {
         variable();
         swap();
         sift();
-        System.out.println(wrong == 0 ? "all promises hold" : wrong + " checks failed");
-        if (wrong != 0) {
-            System.exit(1);
-        }
+        finish();
     }
 
     private static void newObject() {
-        promise = "1, a new object";
+        about("promise 1, a new object");
         SiftedGraphs x = new SiftedGraphs();
         for (int r = 0; r < 8; r++) {
             int register = r;
@@ -64,7 +52,7 @@ public final class PromiseTests {
     }
 
     private static void set() {
-        promise = "2, set";
+        about("promise 2, set");
         for (int code = 0; code < 14; code++) {
             SiftedGraphs one = new SiftedGraphs();
             one.set(3, code);
@@ -88,7 +76,7 @@ public final class PromiseTests {
     }
 
     private static void apply() {
-        promise = "3, apply";
+        about("promise 3, apply");
         for (int operation = 0; operation < 16; operation++) {
             SiftedGraphs one = withVariables();
             one.apply(7, 1, 4, operation);
@@ -116,7 +104,7 @@ public final class PromiseTests {
     }
 
     private static void choose() {
-        promise = "4, choose";
+        about("promise 4, choose");
         SiftedGraphs x = withVariables();
         x.choose(6, 2, 0, 5);
         for (int i = 0; i < 64; i++) {
@@ -137,7 +125,7 @@ public final class PromiseTests {
     }
 
     private static void restrict() {
-        promise = "5, restrict";
+        about("promise 5, restrict");
         for (int v = 0; v < 6; v++) {
             SiftedGraphs one = held(RING);
             one.restrict(7, 0, v, true);
@@ -161,7 +149,7 @@ public final class PromiseTests {
     }
 
     private static void compose() {
-        promise = "6, compose";
+        about("promise 6, compose");
         for (int v = 0; v < 6; v++) {
             SiftedGraphs one = held(RING);
             enter(one, 7, "b|!d&e");
@@ -192,7 +180,7 @@ public final class PromiseTests {
     }
 
     private static void quantify() {
-        promise = "7, quantify";
+        about("promise 7, quantify");
         for (int set = 0; set < 64; set++) {
             SiftedGraphs one = held(RING);
             one.quantify(1, 0, set, false);
@@ -215,7 +203,7 @@ public final class PromiseTests {
     }
 
     private static void type() {
-        promise = "8, type";
+        about("promise 8, type");
         SiftedGraphs x = new SiftedGraphs();
         for (int bad : new int[] {0, -1, 9, Integer.MIN_VALUE, Integer.MAX_VALUE}) {
             refused("n " + bad, () -> x.type('a', bad));
@@ -246,7 +234,7 @@ public final class PromiseTests {
     }
 
     private static void readMeanings() {
-        promise = "9, read";
+        about("promise 9, read");
         means("0", 0);
         means("1", -1L);
         means("a", 0xFFFFFFFF00000000L);
@@ -333,7 +321,7 @@ public final class PromiseTests {
     }
 
     private static void release() {
-        promise = "10, release";
+        about("promise 10, release");
         SiftedGraphs x = withVariables();
         due("full", x.release(0), true);
         missing("it is empty", () -> x.count(0));
@@ -349,7 +337,7 @@ public final class PromiseTests {
     }
 
     private static void equal() {
-        promise = "11, equal";
+        about("promise 11, equal");
         SiftedGraphs x = withVariables();
         enter(x, 6, "!(!a|!b)");
         enter(x, 7, "b&a");
@@ -371,7 +359,7 @@ public final class PromiseTests {
     }
 
     private static void value() {
-        promise = "12, value";
+        about("promise 12, value");
         SiftedGraphs x = withVariables();
         for (int v = 0; v < 6; v++) {
             for (int i = 0; i < 64; i++) {
@@ -389,7 +377,7 @@ public final class PromiseTests {
     }
 
     private static void count() {
-        promise = "13, count";
+        about("promise 13, count");
         due("never", held("0").count(0), 0);
         due("always", held("1").count(0), 64);
         due("once", held("a&b&c&d&e&f").count(0), 1);
@@ -399,7 +387,7 @@ public final class PromiseTests {
     }
 
     private static void least() {
-        promise = "14, least";
+        about("promise 14, least");
         due("never", held("0").least(0), -1);
         due("always", held("1").least(0), 0);
         due("the last", held("a&b&c&d&e&f").least(0), 63);
@@ -410,7 +398,7 @@ public final class PromiseTests {
     }
 
     private static void support() {
-        promise = "15, support";
+        about("promise 15, support");
         due("never", held("0").support(0), 0);
         due("always", held("1").support(0), 0);
         due("all", held("a^b^c^d^e^f").support(0), 63);
@@ -421,7 +409,7 @@ public final class PromiseTests {
     }
 
     private static void size() {
-        promise = "16, size";
+        about("promise 16, size");
         due("never", held("0").size(0), 0);
         due("always", held("1").size(0), 0);
         due("a variable", held("d").size(0), 1);
@@ -436,7 +424,7 @@ public final class PromiseTests {
     }
 
     private static void shared() {
-        promise = "17, shared";
+        about("promise 17, shared");
         SiftedGraphs x = held("a&b");
         x.set(1, 4);
         due("a register inside another", x.shared(), 2);
@@ -454,7 +442,7 @@ public final class PromiseTests {
     }
 
     private static void width() {
-        promise = "18, width";
+        about("promise 18, width");
         SiftedGraphs x = held("a&d|b&e|c&f");
         int[] apart = {1, 2, 4, 4, 2, 1};
         for (int level = 0; level < 6; level++) {
@@ -470,7 +458,7 @@ public final class PromiseTests {
     }
 
     private static void variable() {
-        promise = "19, variable";
+        about("promise 19, variable");
         SiftedGraphs x = new SiftedGraphs();
         x.swap(0);
         x.swap(1);
@@ -485,7 +473,7 @@ public final class PromiseTests {
     }
 
     private static void swap() {
-        promise = "20, swap";
+        about("promise 20, swap");
         SiftedGraphs x = held("a&d|b&e|c&f");
         due("before", x.shared(), 14);
         due("c and d", x.swap(2), 10);
@@ -495,26 +483,26 @@ public final class PromiseTests {
         due("values stay", x.least(0), 9);
         due("the first", x.swap(0), 8);
         due("the last", x.swap(4), 8);
-        order("after all", x, 301254);
+        due("order after all", order(x), "301254");
         for (int bad : new int[] {-1, 5, 6, Integer.MIN_VALUE, Integer.MAX_VALUE}) {
             refused("l " + bad, () -> x.swap(bad));
         }
-        order("after wrong calls", x, 301254);
+        due("order after wrong calls", order(x), "301254");
     }
 
     private static void sift() {
-        promise = "21, sift";
+        about("promise 21, sift");
         SiftedGraphs x = new SiftedGraphs();
         due("no nodes: the least level", x.sift(4), 0);
-        order("the others keep their order", x, 401235);
+        due("order the others keep their order", order(x), "401235");
         enter(x, 0, "a^b^c^d^e^f");
         due("all alike", x.sift(5), 0);
-        order("from the last level", x, 540123);
+        due("order from the last level", order(x), "540123");
 
         SiftedGraphs y = held("a&d|b&e|c&f");
         due("d", y.sift(3), bestLevel("012345", '3', "a&d|b&e|c&f"));
         due("then e", y.sift(4), 2);
-        order("after both", y, 304125);
+        due("order after both", order(y), "304125");
         due("in the end", y.shared(), 6);
 
         SiftedGraphs z = held("b&c&(a|d)|!b&!c&d");
@@ -586,40 +574,6 @@ public final class PromiseTests {
         missing("a released", () -> question.ask(x, 7));
     }
 
-    private static SiftedGraphs withVariables() {
-        SiftedGraphs x = new SiftedGraphs();
-        for (int v = 0; v < 6; v++) {
-            x.set(v, 2 + 2 * v);
-        }
-        return x;
-    }
-
-    private static SiftedGraphs held(String formula) {
-        SiftedGraphs x = new SiftedGraphs();
-        enter(x, 0, formula);
-        return x;
-    }
-
-    private static void enter(SiftedGraphs x, int r, String formula) {
-        put(x, formula);
-        due("reading " + formula, x.read(r), -1);
-    }
-
-    private static void put(SiftedGraphs x, String text) {
-        for (int from = 0; from < text.length(); from += 8) {
-            String part = text.substring(from, Math.min(from + 8, text.length()));
-            due("typing " + part, x.type(packed(part), part.length()), from + part.length());
-        }
-    }
-
-    private static long packed(String part) {
-        long characters = 0;
-        for (int i = 0; i < part.length(); i++) {
-            characters = characters << 8 | part.charAt(i);
-        }
-        return characters;
-    }
-
     private static void means(String formula, long table) {
         SiftedGraphs x = held(formula);
         for (int i = 0; i < 64; i++) {
@@ -633,10 +587,6 @@ public final class PromiseTests {
         put(x, text);
         due("reading " + text, x.read(0), place);
         due("after reading " + text, x.support(0) == 1 && x.least(0) == 32, true);
-    }
-
-    private static boolean bit(int assignment, int v) {
-        return (assignment >> 5 - v & 1) == 1;
     }
 
     private static boolean ring(int i) {
@@ -654,45 +604,5 @@ public final class PromiseTests {
             }
         }
         return all;
-    }
-
-    private static void order(String what, SiftedGraphs x, int digits) {
-        int got = 0;
-        for (int level = 0; level < 6; level++) {
-            got = 10 * got + x.variable(level);
-        }
-        due("order " + what, got, digits);
-    }
-
-    private static void due(String what, boolean got, boolean want) {
-        due(what, got ? 1 : 0, want ? 1 : 0);
-    }
-
-    private static void due(String what, int got, int want) {
-        if (got != want) {
-            wrong++;
-            System.out.println("promise " + promise + ": " + what + " answered " + got + ", due is " + want);
-        }
-    }
-
-    private static void refused(String what, Call call) {
-        thrown(what, call, IllegalArgumentException.class);
-    }
-
-    private static void missing(String what, Call call) {
-        thrown(what, call, NoSuchElementException.class);
-    }
-
-    private static void thrown(String what, Call call, Class<?> due) {
-        Class<?> got = null;
-        try {
-            call.make();
-        } catch (RuntimeException e) {
-            got = e.getClass();
-        }
-        if (got != due) {
-            wrong++;
-            System.out.println("promise " + promise + ": " + what + " threw " + got + ", due is " + due);
-        }
     }
 }
