@@ -682,15 +682,12 @@ public final class BoundaryTests extends Checks {
 
     private static void siftCountsAllRegisters() {
         about("21: for which shared() is least, not the size of one");
-        SiftedGraphs one = held("a&b|c&d|e&f");
-        due("one register", one.sift(2), 2);
-        SiftedGraphs more = held("a&b|c&d|e&f");
-        enter(more, 1, "c&(a^b)|!c&(a&e)");
-        enter(more, 2, "c&(b^e)|!c&(b|f)");
-        due("three registers", more.sift(2), bestBySwaps(more, 2));
-        more.release(1);
-        more.release(2);
-        due("one again", more.sift(2), 2);
+        SiftedGraphs x = held("e&f^b&a&d|c&d");
+        due("the first register alone", x.sift(2), 0);
+        enter(x, 7, "a&e&b|c^d&f");
+        due("both together", x.sift(2), 4);
+        x.release(0);
+        due("the last register alone", x.sift(2), 5);
     }
 
     private static void siftChangesNoFunction() {
