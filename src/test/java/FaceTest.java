@@ -6,7 +6,10 @@ import java.lang.reflect.Modifier;
 import java.util.Set;
 import java.util.TreeSet;
 
-/** The class shows what "The public face" of the document lists and nothing else. */
+/**
+ * The class shows what "The public face" of the document lists and nothing else, and hides the rest
+ * as rule 1 of LANGUAGE.md asks.
+ */
 public final class FaceTest {
     private static final String[] FACE = {
         "void set(int, int) I",
@@ -35,6 +38,20 @@ public final class FaceTest {
         Set<String> due = new TreeSet<>(Set.of(FACE));
         due.add("public final class");
         due.add("public constructor of 0");
+        Set<String> got = shown();
+        if (!got.equals(due)) {
+            System.out.println("the face is " + got + ", due is " + due);
+            System.exit(1);
+        }
+        Set<String> wrong = wronglyHidden();
+        if (!wrong.isEmpty()) {
+            System.out.println("against rule 1: " + wrong);
+            System.exit(1);
+        }
+        System.out.println("the face is as due");
+    }
+
+    private static Set<String> shown() {
         Set<String> got = new TreeSet<>();
         if (SiftedGraphs.class.getModifiers() == (Modifier.PUBLIC | Modifier.FINAL)) {
             got.add("public final class");
@@ -52,11 +69,32 @@ public final class FaceTest {
                 got.add(f.toString());
             }
         }
-        if (!got.equals(due)) {
-            System.out.println("the face is " + got + ", due is " + due);
-            System.exit(1);
+        return got;
+    }
+
+    private static Set<String> wronglyHidden() {
+        Set<String> publicNames = new TreeSet<>();
+        for (Method m : SiftedGraphs.class.getMethods()) {
+            publicNames.add(m.getName());
         }
-        System.out.println("the face is as due");
+        Set<String> wrong = new TreeSet<>();
+        addPrivateNamesakes(SiftedGraphs.class, publicNames, wrong);
+        for (Class<?> inside : SiftedGraphs.class.getDeclaredClasses()) {
+            addPrivateNamesakes(inside, publicNames, wrong);
+            int modifiers = inside.getModifiers();
+            if (!Modifier.isStatic(modifiers) || Modifier.isPublic(modifiers) || Modifier.isProtected(modifiers)) {
+                wrong.add(inside.toString());
+            }
+        }
+        return wrong;
+    }
+
+    private static void addPrivateNamesakes(Class<?> owner, Set<String> publicNames, Set<String> wrong) {
+        for (Method m : owner.getDeclaredMethods()) {
+            if (Modifier.isPrivate(m.getModifiers()) && publicNames.contains(m.getName())) {
+                wrong.add(m.toString());
+            }
+        }
     }
 
     private static boolean isShown(Member m) {

@@ -38,6 +38,7 @@ public final class TermsTests extends Checks {
         noBlanks();
         charactersThatCannotStand();
         textsThatEnd();
+        fullTextsThatEnd();
         firstPlaceOfSeveral();
         emptyRegistersNamed();
         sixthParenthesis();
@@ -337,6 +338,31 @@ public final class TermsTests extends Checks {
             String text = "a&a&a&a&a&a&a&a&a&a&a&a&a&a&a&a&a&a&a&a&".substring(0, length);
             due("the end at " + length, placeOf(new SiftedGraphs(), text, 7), length % 2 == 1 ? -1 : length);
         }
+    }
+
+    // No room is left for what is wanted: the text fails where it ends, not where the room ran out.
+    private static void fullTextsThatEnd() {
+        about("a text of 40 characters ends where something is still wanted");
+        for (String end : new String[] {"&", "^", "|", "&!", "|(", "^!(", "|(a", "&(a^b", "|(a&", "^(a|!", "&(a)&"}) {
+            due("the end behind " + end, placeOf(new SiftedGraphs(), filledUp(end), 0), 40);
+        }
+        due("! alone", placeOf(new SiftedGraphs(), "!".repeat(40), 0), 40);
+        for (int open = 1; open <= 5; open++) {
+            String opening = "|" + "(".repeat(open);
+            due(open + " opened by the last", placeOf(new SiftedGraphs(), filledUp(opening), 0), 40);
+            due(open + " without room to close", placeOf(new SiftedGraphs(), filledUp(opening + "a"), 0), 40);
+            String closing = opening + "a" + ")".repeat(open - 1);
+            due(open + " closed but for one", placeOf(new SiftedGraphs(), filledUp(closing), 0), 40);
+            due(open + " closed by the last", placeOf(new SiftedGraphs(), filledUp(closing + ")"), 0), -1);
+        }
+        due("a sixth as the last", placeOf(new SiftedGraphs(), filledUp("|(((((("), 0), 39);
+        due("an empty register as the last", placeOf(new SiftedGraphs(), filledUp("|H"), 0), 39);
+        due("a character that cannot stand as the last", placeOf(new SiftedGraphs(), filledUp("|&"), 0), 39);
+    }
+
+    /** A text of 40 characters: an operand with as many ! before it as are needed, then this end. */
+    private static String filledUp(String end) {
+        return "!".repeat(39 - end.length()) + "a" + end;
     }
 
     private static void firstPlaceOfSeveral() {
